@@ -94,7 +94,11 @@ public final class WireDesk {
         }
         transactionCount = count;
         blockKept = block;
-        nameAll();
+        nameTransactions();
+        if (block) {
+            namer.writeName(kept.bytes, 0, HEAD_BYTES, blockName, 0);
+            row.putTogether(transactionNames, transactionCount, namer);
+        }
         return count;
     }
 
@@ -225,15 +229,11 @@ public final class WireDesk {
     }
 
     /** Names are made once for each reading, as they may be asked for hundreds of times after it. */
-    private void nameAll() {
+    private void nameTransactions() {
         for (int t = 0; t < transactionCount && t < TRANSACTION_LIMIT; t++) {
             int begin = transactions[t].begin;
             int length = transactions[t].end - begin;
             namer.writeName(kept.bytes, begin, length, transactionNames, t * NAME_BYTES);
-        }
-        if (blockKept) {
-            namer.writeName(kept.bytes, 0, HEAD_BYTES, blockName, 0);
-            row.putTogether(transactionNames, transactionCount, namer);
         }
     }
 
@@ -558,20 +558,14 @@ public final class WireDesk {
             }
             int chunks = (length + 8) / 64 + 1;
             for (int c = 0; c < chunks; c++) {
-                for (int i = 0; i < 16; i++) {
-                    schedule[i] = paddedWord(source, from, length, c * 64 + i * 4);
+                // Four bytes push what a word held before out of it.
+                for (int i = 0; i < 64; i++) {
+                    int b = paddedByte(source, from, length, c * 64 + i);
+                    schedule[i / 4] = (schedule[i / 4] << 8) | b;
                 }
                 stretchSchedule();
                 mixChunk();
             }
-        }
-
-        private static int paddedWord(byte[] source, int from, int length, int i) {
-            int word = 0;
-            for (int b = i; b < i + 4; b++) {
-                word = (word << 8) | paddedByte(source, from, length, b);
-            }
-            return word;
         }
 
         /** Behind the bytes: 128, zeros, and how many bits there were (they fit in four bytes). */

@@ -38,6 +38,7 @@ public final class FieldsTest {
         Check.due("time", x.head(1), 0x80000000L);
         Check.due("bits", x.head(2), 0xFEDCBA98L);
         Check.due("nonce", x.head(3), 0x89ABCDEFL);
+        Check.due("nonce before a count that is not 0", readBlock().head(3), 2083236893L);
     }
 
     private static void noHeadWithoutBlock() {
