@@ -2,8 +2,27 @@
 final class Check {
     private static int right = 0;
     private static int wrong = 0;
+    private static int sentences = 0;
+    private static int answersBefore = 0;
+    private static String sentence = "";
 
     private Check() {
+    }
+
+    /** What is checked from here on belongs to this sentence of the document, told by its own words. */
+    static void sentence(String where, String words) {
+        endSentence();
+        sentences++;
+        sentence = "[" + where + ": " + words + "] ";
+    }
+
+    /** A sentence without one answer has no test, whatever its method is called. */
+    private static void endSentence() {
+        if (sentences > 0 && right + wrong == answersBefore) {
+            wrong++;
+            System.out.println(sentence + "has no test");
+        }
+        answersBefore = right + wrong;
     }
 
     static void due(String call, long got, long want) {
@@ -12,7 +31,7 @@ final class Check {
             return;
         }
         wrong++;
-        System.out.println(call + " answered " + got + ", due is " + want);
+        System.out.println(sentence + call + " answered " + got + ", due is " + want);
     }
 
     static void due(String call, boolean got, boolean want) {
@@ -20,7 +39,9 @@ final class Check {
     }
 
     static void end() {
-        System.out.println(right + " answers as due, " + wrong + " not as due");
+        endSentence();
+        System.out.println((sentences > 0 ? sentences + " sentences, " : "") + right + " answers as due, " + wrong
+            + " not as due");
         if (wrong != 0 || right == 0) {
             System.exit(1);
         }

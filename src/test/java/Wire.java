@@ -68,6 +68,33 @@ final class Wire {
         return low(version, 4).size(0).size(0).low(0, 4);
     }
 
+    /** A whole transaction of so many bytes: 10, or 19 to 2000. */
+    static Wire whole(int length) {
+        int inputs = 0;
+        int left = length - 10;
+        while (left > 8 * 209) {
+            inputs++;
+            left -= 241;
+        }
+        int outputs = (left + 208) / 209;
+        int scripts = left - 9 * outputs;
+        Wire wire = new Wire().low(0x04030201, 4).size(inputs);
+        for (int i = 0; i < inputs; i++) {
+            wire.input(i, i, 200, i);
+        }
+        wire.size(outputs);
+        for (int i = 0; i < outputs; i++) {
+            int script = Math.min(200, scripts);
+            wire.output(i, i, script);
+            scripts -= script;
+        }
+        wire.low(0x08070605, 4);
+        if (wire.length() != length) {
+            throw new IllegalArgumentException("no transaction has " + length + " bytes");
+        }
+        return wire;
+    }
+
     Wire head() {
         return low(2, 4).count(3, 32).count(91, 32).low(1231006505L, 4).low(486604799L, 4).low(2083236893L, 4);
     }
