@@ -9,7 +9,7 @@ final class Check {
     private Check() {
     }
 
-    /** What is checked from here on belongs to this sentence of the document, told by its own words. */
+    /** What is checked from here on belongs to this sentence of the document, told by (some of) its words. */
     static void sentence(String where, String words) {
         endSentence();
         sentences++;

@@ -1,10 +1,12 @@
 import java.util.Arrays;
 
-/** 'Terms': a call that is refused changes nothing, neither the text nor what was read nor the place. */
+/** 'Terms', its last lines: no object has a part in another, and a call that is refused changes nothing. */
 public final class EdgeRefusedTest {
     private static final int[] WRONG = {0, -1, 9, Integer.MIN_VALUE, Integer.MAX_VALUE};
 
     public static void main(String[] args) {
+        Check.sentence("Terms", "All memory is the class's own (and each object has its own)");
+        objectsAreApart();
         Check.sentence("Terms", "A call that is refused changes nothing (for a wrong n)");
         wrongCounts();
         Check.sentence("Terms", "A call that is refused changes nothing (put, for want of room)");
@@ -18,6 +20,23 @@ public final class EdgeRefusedTest {
         Check.sentence("Terms", "A call that is refused changes nothing (a question without an answer)");
         questionsChangeNothing();
         Check.end();
+    }
+
+    /** What one object reads, with and without a fault, does not show in another one that has a text and has read. */
+    private static void objectsAreApart() {
+        WireDesk x = block().desk();
+        Check.due("read", x.read(true), 2);
+        new Wire().small(9).give(x);
+        Snapshot before = new Snapshot(x);
+        WireDesk other = new Wire().fill(9, 80).size(3).small(1).small(2).small(3).desk();
+        before.stands("another object's text", x);
+        Check.due("read by another object", other.read(true), 3);
+        before.stands("another object's reading", x);
+        Check.due("read with a fault by another object", other.read(false), -2);
+        before.stands("another object's fault", x);
+        Snapshot.nothingRead("its own fault", other);
+        Check.due("read of its own text", x.read(false), 1);
+        Check.due("version in its own text", x.look(0, 0), 9);
     }
 
     /** That the text is still this one, seen at both its ends. */

@@ -80,9 +80,10 @@ public final class FaceTest {
             Check.due("the word " + word + " in the code", code.matches("(?s).*\\b" + word + "\\b.*"), false);
         }
         Check.due("a lambda or method reference", code.contains("->") || code.contains("::"), false);
-        String rest = code.replaceAll("import java\\.util\\.(ArrayList|List|Arrays|Iterator|NoSuchElementException);", " ")
+        String rest = code.replaceAll("java\\.util\\.(ArrayList|List|Arrays|Iterator|NoSuchElementException|\\*)\\b?", " ")
             .replace("System.arraycopy", " ");
-        for (String word : new String[] {"import", "System", "java"}) {
+        Check.due("an import of more than is allowed", rest.matches("(?s).*\\bimport\\s+[a-z].*"), false);
+        for (String word : new String[] {"System", "java", "javax"}) {
             Check.due("the word " + word + " for more than is allowed", rest.matches("(?s).*\\b" + word + "\\b.*"), false);
         }
     }
