@@ -28,9 +28,9 @@ public final class WireDesk {
 
     /** The text that the next reading takes. */
     private final Text written = new Text();
+    private final Reader reader = new Reader();
     /** What was read without a fault; it has no bytes if there is no such thing. */
-    private final Text kept = new Text();
-    private final Reader reader = new Reader(kept);
+    private final Text kept = reader.text;
     private final Namer namer = new Namer();
     private final Transaction[] transactions = new Transaction[TRANSACTION_LIMIT];
     private int transactionCount = 0;
@@ -350,14 +350,10 @@ public final class WireDesk {
 
     /** Goes over a text from the left; after the first fault it takes nothing more. */
     private static final class Reader {
-        private final Text text;
+        final Text text = new Text();
         private int next = 0;
         int fault = NO_FAULT;
         int faultPlace = -1;
-
-        Reader(Text toRead) {
-            text = toRead;
-        }
 
         void begin() {
             next = 0;

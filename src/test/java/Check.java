@@ -9,11 +9,19 @@ final class Check {
     private Check() {
     }
 
-    /** What is checked from here on belongs to this sentence of the document, told by (some of) its words. */
+    /**
+     * What is checked from here on belongs to these words of the document, under the heading that begins with where.
+     * A " | " stands for words in between that are left out. DocumentTest holds the words against the document.
+     */
     static void sentence(String where, String words) {
         endSentence();
         sentences++;
         sentence = "[" + where + ": " + words + "] ";
+    }
+
+    /** The same, for a part of what the words say. */
+    static void sentence(String where, String words, String part) {
+        sentence(where, words + " - " + part);
     }
 
     /** A sentence without one answer has no test, whatever its method is called. */

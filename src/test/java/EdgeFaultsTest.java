@@ -40,7 +40,7 @@ public final class EdgeFaultsTest {
     }
 
     private static void textEndsInEverySize() {
-        Check.sentence("Terms", "1 the text ends there (within a size)");
+        Check.sentence("Terms", "1 the text ends there before all of it has been read", "within a size");
         Wire[] begins = {new Wire().low(1, 4), new Wire().low(1, 4).size(1).fill(1, 36), new Wire().low(1, 4).size(0),
             new Wire().low(1, 4).size(0).size(1).fill(1, 8), new Wire().head()};
         for (int where = 0; where < begins.length; where++) {
@@ -115,7 +115,7 @@ public final class EdgeFaultsTest {
     }
 
     private static void onlySizesCanBeWrong() {
-        Check.sentence("Terms", "where something is wrong (nothing else than a size can be)");
+        Check.sentence("Terms", "where something is wrong", "nothing else than a size can be");
         for (int b : new int[] {0, 127, 128, 252, 253, 254, 255}) {
             Wire transaction = new Wire().fill(b, 4).size(1).fill(b, 36).size(9).fill(b, 9).fill(b, 4)
                 .size(1).fill(b, 8).size(200).fill(b, 200).fill(b, 4);

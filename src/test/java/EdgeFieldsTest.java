@@ -65,7 +65,7 @@ public final class EdgeFieldsTest {
     }
 
     private static void noOtherHead() {
-        Check.sentence("Promise 8", "-1 for another what");
+        Check.sentence("Promise 8", "or for another what");
         WireDesk x = read(new Wire().head().size(1).small(1), true, 1);
         Check.due("head 4", x.head(4), -1);
         Check.due("head 5", x.head(5), -1);
@@ -75,7 +75,7 @@ public final class EdgeFieldsTest {
     }
 
     private static void looksWithoutASign() {
-        Check.sentence("Promise 9", "0 version, 3 time (0 and 3 as numbers without a sign)");
+        Check.sentence("Promise 9", "0 version | 3 time (0 and 3 as numbers without a sign)");
         for (int f = 0; f < FOURS.length; f++) {
             long version = FOURS[f];
             long time = FOURS[(f + 3) % 10];
@@ -164,7 +164,7 @@ public final class EdgeFieldsTest {
     }
 
     private static void noOtherLook() {
-        Check.sentence("Promise 9", "-1 for another what");
+        Check.sentence("Promise 9", "or for another what");
         WireDesk x = read(new Wire().head().size(2).add(transaction(2, 2, 2)).small(2), true, 2);
         for (int t = 0; t < 2; t++) {
             Check.due("look " + t + " 6", x.look(t, 6), -1);
@@ -176,7 +176,7 @@ public final class EdgeFieldsTest {
     }
 
     private static void inputsWithoutASign() {
-        Check.sentence("Promise 10", "1 index, 4 sequence (1 and 4 without a sign)");
+        Check.sentence("Promise 10", "1 index | 4 sequence (1 and 4 without a sign)");
         for (int f = 0; f < FOURS.length; f++) {
             long index = FOURS[f];
             long sequence = FOURS[(f + 3) % 10];
@@ -190,7 +190,7 @@ public final class EdgeFieldsTest {
     }
 
     private static void inputsPlaces() {
-        Check.sentence("Promise 10", "0 where its name begins, 2 where its script begins, 3 how many bytes that has");
+        Check.sentence("Promise 10", "0 where its name begins | 2 where its script begins, 3 how many bytes that has");
         for (int script : new int[] {0, 1, 199, 200}) {
             WireDesk x = read(new Wire().head().size(2).small(1).low(1, 4).size(3).input(1, 1, 2, 1).input(2, 2, script, 2)
                 .input(3, 3, 0, 3).size(0).low(0, 4), true, 2);
@@ -238,7 +238,7 @@ public final class EdgeFieldsTest {
     }
 
     private static void noOtherInput() {
-        Check.sentence("Promise 10", "-1 for another what");
+        Check.sentence("Promise 10", "or for another what");
         WireDesk x = read(transaction(8, 8, 3), false, 1);
         for (int i = 0; i < 8; i++) {
             Check.due("input 0 " + i + " 5", x.input(0, i, 5), -1);
@@ -306,7 +306,7 @@ public final class EdgeFieldsTest {
     }
 
     private static void noOtherOutput() {
-        Check.sentence("Promise 11", "-1 for another what");
+        Check.sentence("Promise 11", "or for another what");
         WireDesk x = read(transaction(8, 8, 3), false, 1);
         for (int i = 0; i < 8; i++) {
             Check.due("output 0 " + i + " 3", x.output(0, i, 3), -1);

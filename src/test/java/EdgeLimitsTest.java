@@ -55,7 +55,7 @@ public final class EdgeLimitsTest {
     }
 
     private static void eightOutputs() {
-        Check.sentence("Terms", "At most 8 inputs and 8 outputs");
+        Check.sentence("Terms", "At most | 8 outputs");
         readsTransaction("7 outputs", outputs(7, 2), -1);
         readsTransaction("8 outputs", outputs(8, 2), -1);
         readsTransaction("9 outputs", outputs(9, 2), 5);
@@ -67,7 +67,7 @@ public final class EdgeLimitsTest {
     }
 
     private static void scriptsOfInputs() {
-        Check.sentence("Terms", "scripts of 200 bytes (an input's)");
+        Check.sentence("Terms", "scripts of 200 bytes", "an input's");
         readsTransaction("199 bytes", inputs(1, 199), -1);
         readsTransaction("200 bytes", inputs(1, 200), -1);
         readsTransaction("201 bytes", inputs(1, 201), 41);
@@ -77,7 +77,7 @@ public final class EdgeLimitsTest {
     }
 
     private static void scriptsOfOutputs() {
-        Check.sentence("Terms", "scripts of 200 bytes (an output's)");
+        Check.sentence("Terms", "scripts of 200 bytes", "an output's");
         readsTransaction("199 bytes", outputs(1, 199), -1);
         readsTransaction("200 bytes", outputs(1, 200), -1);
         readsTransaction("201 bytes", outputs(1, 201), 14);
@@ -106,7 +106,7 @@ public final class EdgeLimitsTest {
 
     /** As much as 2000 bytes hold: 12 transactions, some with 8 inputs, some with 8 outputs, one with a full script. */
     private static void allLimitsAtOnce() {
-        Check.sentence("Terms", "At most 8 inputs and 8 outputs, scripts of 200 bytes, 12 transactions");
+        Check.sentence("Terms", "At most 8 inputs and 8 outputs, scripts of 200 bytes, 12 transactions", "all in one text");
         Wire wire = new Wire().head().size(12).add(inputs(8, 0)).add(outputs(8, 0)).add(inputs(1, 200)).add(outputs(1, 200));
         for (int t = 4; t < 12; t++) {
             wire.add(outputs(8, 1));

@@ -27,7 +27,7 @@ public final class EdgeNamesTest {
 
     /** The root in a head can have any bytes: here each one alone, with and without its highest bit. */
     private static void eightBytes() {
-        Check.sentence("Promise 12", "Eight bytes, from byte 8 * k on, the first one highest");
+        Check.sentence("Promise 12", "Eight bytes, from byte 8 * k on | the first one highest");
         for (int at = 0; at < 32; at++) {
             for (int b : new int[] {1, 128, 255}) {
                 WireDesk x = read(new Wire().fill(0, 36 + at).fill(b, 1).fill(0, 31 - at).fill(0, 12).size(0), true, 0);
@@ -142,7 +142,7 @@ public final class EdgeNamesTest {
 
     /** A transaction by itself, a fault and a new object have no row that could be doubtful. */
     private static void noDoubtWithoutABlock() {
-        Check.sentence("Promise 13", "the block's (there may be none)");
+        Check.sentence("Promise 13", "the block's transactions", "there may be no block");
         Check.due("doubt in a new object", new WireDesk().isDoubtful(), false);
         WireDesk x = read(block(1, 1), true, 2);
         new Wire().small(1).give(x);

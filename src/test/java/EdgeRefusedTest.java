@@ -5,19 +5,19 @@ public final class EdgeRefusedTest {
     private static final int[] WRONG = {0, -1, 9, Integer.MIN_VALUE, Integer.MAX_VALUE};
 
     public static void main(String[] args) {
-        Check.sentence("Terms", "All memory is the class's own (and each object has its own)");
+        Check.sentence("Terms", "All memory is the class's own", "and each object has its own");
         objectsAreApart();
-        Check.sentence("Terms", "A call that is refused changes nothing (for a wrong n)");
+        Check.sentence("Terms", "A call that is refused changes nothing", "for a wrong n");
         wrongCounts();
-        Check.sentence("Terms", "A call that is refused changes nothing (put, for want of room)");
+        Check.sentence("Terms", "A call that is refused changes nothing", "put, for want of room");
         noRoomForPut();
-        Check.sentence("Terms", "A call that is refused changes nothing (low, for want of room)");
+        Check.sentence("Terms", "A call that is refused changes nothing", "low, for want of room");
         noRoomForLow();
-        Check.sentence("Terms", "A call that is refused changes nothing (compact, for want of room)");
+        Check.sentence("Terms", "A call that is refused changes nothing", "compact, for want of room");
         noRoomForCompact();
-        Check.sentence("Terms", "A call that is refused changes nothing (of what was read)");
+        Check.sentence("Terms", "A call that is refused changes nothing", "of what was read");
         whatWasReadStands();
-        Check.sentence("Terms", "A call that is refused changes nothing (a question without an answer)");
+        Check.sentence("Terms", "A call that is refused changes nothing", "a question without an answer");
         questionsChangeNothing();
         Check.end();
     }

@@ -112,13 +112,13 @@ public final class EdgeRowsTest {
     }
 
     private static void moreThanOne() {
-        Check.sentence("Terms", "as long as there are more than one");
+        Check.sentence("Terms", "A ROW OF NAMES is put together: as long as there are more than one");
         rootIs(nameOf(7), 7);
         rootIs(pair(nameOf(7), nameOf(8)), 7, 8);
     }
 
     private static void fromTheFirstOn() {
-        Check.sentence("Terms", "each two neighbours, from the first on, become the name of their 64 bytes");
+        Check.sentence("Terms", "each two neighbours, from the first on | become the name of their 64 bytes");
         byte[] left = pair(pair(nameOf(1), nameOf(2)), pair(nameOf(3), nameOf(4)));
         byte[] right = pair(pair(nameOf(5), nameOf(6)), pair(nameOf(7), nameOf(8)));
         rootIs(left, 1, 2, 3, 4);
@@ -166,7 +166,7 @@ public final class EdgeRowsTest {
     }
 
     private static void neighboursAlike() {
-        Check.sentence("Terms", "It is DOUBTFUL if anywhere two neighbours were alike");
+        Check.sentence("Terms", "It is DOUBTFUL if anywhere two neighbours | were alike");
         for (int count = 2; count <= 12; count++) {
             for (int at = 0; at + 1 < count; at += 2) {
                 int[] versions = row(count);

@@ -62,7 +62,8 @@ public final class EdgeSizesTest {
     }
 
     private static void lowFirst() {
-        Check.sentence("Terms", "of which the first byte counts 1, the next one 256, and so on");
+        Check.sentence("Terms",
+            "what has n bytes LOW FIRST is a number of which the first byte counts 1, the next one 256, and so on");
         for (int at = 0; at < 4; at++) {
             WireDesk x = new Wire().fill(0, at).fill(1, 1).fill(0, 3 - at).size(0).size(0).low(0, 4).desk();
             Check.due("read", x.read(false), 1);

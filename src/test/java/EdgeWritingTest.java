@@ -88,7 +88,7 @@ public final class EdgeWritingTest {
     }
 
     private static void lowOfAWrongCount() {
-        Check.sentence("Promise 3", "The same: false if n is not 1 .. 8");
+        Check.sentence("Promise 3", "The same", "false if n is not 1 .. 8");
         for (int n : WRONG) {
             Check.due("low of " + n + " without a text", new WireDesk().low(MANY, n), false);
             Check.due("low of " + n + " behind a text", begun().low(MANY, n), false);
@@ -123,7 +123,7 @@ public final class EdgeWritingTest {
     }
 
     private static void putUpTo2000() {
-        Check.sentence("Promise 2", "false if there would be more than 2000");
+        Check.sentence("Promise 2", "false if | or there would be more than 2000");
         for (int n = 1; n <= 8; n++) {
             WireDesk x = fullButFor(n);
             if (n < 8) {
@@ -138,7 +138,7 @@ public final class EdgeWritingTest {
     }
 
     private static void lowUpTo2000() {
-        Check.sentence("Promise 3", "The same: false if there would be more than 2000");
+        Check.sentence("Promise 3", "The same", "false if there would be more than 2000");
         for (int n = 1; n <= 8; n++) {
             WireDesk x = fullButFor(n);
             if (n < 8) {
@@ -164,7 +164,7 @@ public final class EdgeWritingTest {
     }
 
     private static void shortestSize() {
-        Check.sentence("Promise 4", "v comes behind the text as a size: true");
+        Check.sentence("Promise 4", "comes behind the text as a size: true");
         compactIs(0, 0);
         compactIs(1, 1);
         compactIs(128, 128);
